@@ -408,7 +408,7 @@ public final class GantryHall {
         int best = now;
         int least = 0;
         for (int minute = now; minute < now + DAY; minute++) {
-            // Within one HOUR the PRICE stays the same.
+            // Within one HOUR the PRICE stays the same, so it is not made for each minute.
             if (minute == now || minute % HOUR == 0) {
                 price = tariffs.price(on, one.rank, one.emission, minute);
             }
@@ -456,7 +456,7 @@ public final class GantryHall {
             }
         }
         for (int i = 0; i < vehicles.size(); i++) {
-            d = foldVehicle(d, i);
+            d = foldVehicle(d, vehicles.get(i));
         }
         return d;
     }
@@ -616,14 +616,15 @@ public final class GantryHall {
         return changed;
     }
 
-    private long foldVehicle(long start, int vehicle) {
+    private long foldVehicle(long start, Vehicle one) {
+        int vehicle = one.number;
         long d = start;
         for (int what = 0; what <= 7; what++) {
             d = fold(d, ofVehicle(vehicle, what));
         }
-        d = foldDay(d, vehicle, today());
+        d = foldDay(d, one, today());
         if (today() > 0) {
-            d = foldDay(d, vehicle, today() - 1);
+            d = foldDay(d, one, today() - 1);
         }
         d = fold(d, cheapest(vehicle, 0, 1));
         d = fold(d, cheapest(vehicle, 3, 5));
@@ -634,8 +635,8 @@ public final class GantryHall {
         return d;
     }
 
-    private long foldDay(long start, int vehicle, int day) {
-        Vehicle one = vehicles.get(vehicle);
+    // The book is made once for all that is asked of it, since making it is the dearest part.
+    private long foldDay(long start, Vehicle one, int day) {
         book.gather(sightings, segments, one, day);
         book.charge(one, one.rank, capNow, tariffs);
         long d = fold(start, book.journeyCount());

@@ -7,6 +7,7 @@ public final class AskedTest {
         ofVehicle();
         ofSighting();
         ofOwner();
+        onDayZero();
         joined();
         sureAndDoubtful();
         inferred();
@@ -71,7 +72,9 @@ public final class AskedTest {
         hall.control(2, 0, 2800);
         Check.same("16: prepaid below 0", 1, hall.ofVehicle(0, 4));
         Check.same("16: guest below 0", 0, hall.ofVehicle(2, 4));
-        hall.pay(0, 40);
+        hall.pay(0, 39);
+        Check.same("16: prepaid at -1", 1, hall.ofVehicle(0, 4));
+        hall.pay(0, 1);
         Check.same("16: prepaid at 0", 0, hall.ofVehicle(0, 4));
         hall.pay(1, 2000 - 3);
         hall.pay(1, 2);
@@ -157,6 +160,18 @@ public final class AskedTest {
         }
         Check.argument(hall, "18: what 4", () -> hall.ofOwner(0, 4));
         Check.index(hall, "18: index ahead of argument", () -> hall.ofOwner(4, 4));
+    }
+
+    private static void onDayZero() {
+        GantryHall hall = new GantryHall();
+        hall.segment(0, 1, 10, 0);
+        hall.vehicle(0, 0, 0);
+        hall.see(0, 0, 0, 0);
+        Check.same("19: on day 0", 1, hall.passages(0, 0));
+        Check.same("20: on day 0", 1, hall.ofPassage(0, 0, 0, 2));
+        Check.same("21: on day 0", 1, hall.journeys(0, 0));
+        Check.same("23: on day 0", 0.0, hall.meanDue(0));
+        Check.same("25: on day 0", 0, hall.bill(0, 0, 999));
     }
 
     private static void joined() {
@@ -246,6 +261,32 @@ public final class AskedTest {
         other.see(0, 2, 2000, 0);
         Check.same("20: of one minute", 2000, other.ofPassage(0, 1, 4, 1));
         Check.same("20: its segment", 1, other.ofPassage(0, 1, 4, 0));
+        other.see(1, 2, 1500, 0);
+        other.segment(3, 0, 5, 0);
+        other.segment(4, 5, 5, 0);
+        other.segment(1, 4, 5, 0);
+        other.see(1, 3, 1500, 0);
+        other.see(1, 5, 1500, 0);
+        Check.same("19: by the first segment", 4, other.passages(1, 1));
+        Check.same("20: the first segment", 0, other.ofPassage(1, 1, 2, 0));
+        other.exempt(1, 0, true);
+        Check.same("20: an inferred one may be exempt", 2, other.ofPassage(1, 1, 2, 3));
+        afterDoubtful();
+    }
+
+    /** Nothing of a DOUBTFUL one that was asked before clings to an INFERRED one. */
+    private static void afterDoubtful() {
+        GantryHall hall = hall();
+        for (int minute = 1500; minute < 1600; minute += 20) {
+            hall.see(0, 0, minute, 2);
+        }
+        hall.see(1, 0, 1500, 0);
+        hall.see(1, 2, 1520, 0);
+        Check.same("19: doubtful ones", 5, hall.passages(0, 1));
+        Check.same("20: the inferred one is no doubtful one", 0, hall.ofPassage(1, 1, 1, 3));
+        Check.same("20: it has no sightings", 0, hall.ofPassage(1, 1, 1, 2));
+        Check.same("21: with the inferred one", 1, hall.journeys(1, 1));
+        GantryHall other = hall();
         other.see(1, 0, 1500, 0);
         other.see(1, 2, 1520, 2);
         Check.same("19: none to a doubtful one", 2, other.passages(1, 1));

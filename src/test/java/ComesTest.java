@@ -16,8 +16,11 @@ public final class ComesTest {
         disputeCapOfClosing();
         disputeOfGuest();
         disputeOwnerByOwner();
+        disputeApart();
+        disputeLate();
         disputeRefused();
         passCloses();
+        passTwentieth();
         passList();
         passGuest();
         passErases();
@@ -322,6 +325,55 @@ public final class ComesTest {
         Check.same("13: the hall keeps", 3, hall.many(8));
     }
 
+    /** What was paid for one VEHICLE, DAY and OWNER is kept apart from all others. */
+    private static void disputeApart() {
+        GantryHall hall = hall();
+        hall.pass(1440);
+        for (int day = 1; day <= 3; day++) {
+            for (int vehicle = 0; vehicle < 3; vehicle++) {
+                if (vehicle != day - 1) {
+                    hall.see(vehicle, 0, day * 1440, 0);
+                    hall.see(vehicle, 1, day * 1440, 0);
+                }
+            }
+            hall.pass(1440);
+        }
+        hall.pass(1440);
+        for (int owner = 0; owner < 2; owner++) {
+            for (int vehicle = 0; vehicle < 3; vehicle++) {
+                hall.exempt(vehicle, owner, true);
+            }
+            for (int day = 1; day <= 3; day++) {
+                for (int vehicle = 0; vehicle < 3; vehicle++) {
+                    int due = vehicle == day - 1 ? 0 : owner == 0 ? 30 : 50;
+                    Check.same("13: day " + day + ", vehicle " + vehicle, due, hall.dispute(vehicle, day));
+                }
+            }
+        }
+        Check.same("13: none is left", 0, hall.many(11));
+    }
+
+    private static void disputeLate() {
+        GantryHall hall = hall();
+        hall.segment(2, 3, 10, 3);
+        for (int k = 3; k < 8; k++) {
+            hall.vehicle(0, 0, 1);
+        }
+        hall.tariff(3, 4, 0, 0, 1);
+        for (int k = 0; k < 18; k++) {
+            hall.pass(3000);
+        }
+        hall.pass(39 * 1440 + 10 - 54000);
+        hall.see(7, 2, 39 * 1440, 0);
+        hall.cap(50);
+        Check.same("14: the last day that is closed", 40, hall.pass(3000));
+        hall.cap(999);
+        hall.pass(60000 - hall.many(0));
+        hall.shut(2, 0, 60000);
+        Check.same("13: of the last day that is closed", 40, hall.dispute(7, 39));
+        Check.same("13: the owner has none", 0, hall.ofOwner(3, 0));
+    }
+
     private static void disputeRefused() {
         GantryHall hall = hall();
         Check.argument(hall, "13: nothing is closed", () -> hall.dispute(0, 0));
@@ -348,7 +400,7 @@ public final class ComesTest {
         GantryHall hall = hall();
         Check.same("14: one minute", 0, hall.pass(1));
         Check.same("14: now", 1, hall.many(0));
-        hall.pass(1439);
+        Check.same("14: the first day", 0, hall.pass(1439));
         hall.cap(60);
         hall.see(0, 0, 1440, 0);
         hall.see(0, 0, 1440, 0);
@@ -379,6 +431,31 @@ public final class ComesTest {
         Check.same("14: one day", 0, other.pass(1));
         other.see(0, 0, 2880, 0);
         Check.same("14: both days", 30 + 100 + 30, other.pass(2880));
+    }
+
+    private static void passTwentieth() {
+        GantryHall hall = new GantryHall();
+        hall.segment(0, 1, 19, 0);
+        hall.segment(1, 2, 20, 1);
+        hall.segment(2, 3, 59, 2);
+        hall.segment(3, 4, 19, 3);
+        hall.vehicle(0, 0, 1);
+        for (int owner = 0; owner < 4; owner++) {
+            hall.tariff(owner, 1, 0, 0, 1);
+        }
+        hall.pass(1500);
+        for (int segment = 0; segment < 4; segment++) {
+            hall.see(0, segment, 1500, 0);
+        }
+        // All of a BILL together: 19 and 19 are 38, of which a twentieth is 1.
+        hall.see(0, 3, 1440, 0);
+        Check.same("14: all of them", 0, hall.pass(1380));
+        Check.same("14: all bills", 19 + 20 + 59 + 38, hall.pass(1440));
+        Check.same("14: none of 19", 19, hall.ofOwner(0, 0));
+        Check.same("14: 1 of 20", 19, hall.ofOwner(1, 0));
+        Check.same("14: 2 of 59", 57, hall.ofOwner(2, 0));
+        Check.same("14: 1 of 38", 37, hall.ofOwner(3, 0));
+        Check.same("14: the hall", 4, hall.many(8));
     }
 
     private static void passList() {
@@ -428,6 +505,14 @@ public final class ComesTest {
         Check.same("14: all without", 30, hall.many(11));
         Check.same("14: the hall has", 11, hall.many(8));
         Check.same("14: the owner has", 29, hall.ofOwner(0, 0));
+        GantryHall other = new GantryHall();
+        other.segment(0, 1, 1, 0);
+        other.vehicle(0, 0, 2);
+        other.tariff(0, 1, 0, 0, 1);
+        other.pass(1440);
+        other.see(0, 0, 1440, 0);
+        other.pass(2880);
+        Check.same("14: a bill of 1 costs 10 more", -11, other.ofVehicle(0, 3));
     }
 
     private static void passErases() {

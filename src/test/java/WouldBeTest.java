@@ -30,6 +30,9 @@ public final class WouldBeTest {
             Check.same("24: at hour " + hour, due, hall.toll(1, 0, 1440 + hour * 60));
             Check.same("24: at the end of hour " + hour, due, hall.toll(1, 0, 1440 + hour * 60 + 59));
         }
+        hall.segment(1, 2, 10, 1);
+        hall.tariff(1, 10, 0, 99, 1);
+        Check.same("24: of 100 just the peak more", 199, hall.toll(0, 1, 1440 + 480));
         hall.holiday(1);
         Check.same("24: on a holiday", 63, hall.toll(1, 0, 1440 + 480));
         Check.same("24: behind it", 78, hall.toll(1, 0, 2880 + 480));
@@ -162,12 +165,17 @@ public final class WouldBeTest {
         Check.same("27: in the last minute of all", 2002 + 1439, hall.bestMinute(0, 0));
         hall.exempt(0, 0, true);
         Check.same("27: exempt", 2002, hall.bestMinute(0, 0));
+        hall.segment(1, 2, 1, 1);
+        hall.tariff(1, 1, 0, 0, 2);
+        hall.pass(1440);
+        hall.shut(1, 3500, 3500);
+        Check.same("27: shut is less than a toll of 1", 3500, hall.bestMinute(0, 1));
         for (int bad : OUTSIDE) {
             Check.index(hall, "27: vehicle", () -> hall.bestMinute(bad, 0));
             Check.index(hall, "27: segment", () -> hall.bestMinute(0, bad));
         }
         Check.index(hall, "27: vehicle 1", () -> hall.bestMinute(1, 0));
-        Check.index(hall, "27: segment 1", () -> hall.bestMinute(0, 1));
+        Check.index(hall, "27: segment 2", () -> hall.bestMinute(0, 2));
     }
 
     private static void wouldSave() {
@@ -225,7 +233,11 @@ public final class WouldBeTest {
         hall.tariff(1, 4, 2, 50, 1);
         hall.tariff(3, 5, 3, 50, 1);
         Check.same("29: on the first day", DigestByAsking.of(hall), hall.digest());
-        hall.pass(2870);
+        hall.see(0, 0, 0, 0);
+        hall.pass(1440);
+        hall.see(0, 1, 1440, 0);
+        Check.same("29: on the second day", DigestByAsking.of(hall), hall.digest());
+        hall.pass(1430);
         hall.see(0, 0, 1900, 0);
         hall.see(0, 2, 1960, 0);
         hall.see(1, 0, 2860, 2);
