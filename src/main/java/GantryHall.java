@@ -201,7 +201,6 @@ public final class GantryHall {
         int then = now + minutes;
         int bills = 0;
         for (int day = today() + 1; day <= then / DAY; day++) {
-            now = day * DAY;
             bills += closeDay(day - DAYS_TO_CLOSING);
             listed = blockedSet();
             eraseDay(day - DAYS_TO_ERASING);
