@@ -145,7 +145,8 @@ final class DisputeEdges {
                 for (int vehicle = 7; vehicle >= 0; vehicle--) {
                     int k = vehicle < 2 ? vehicle : vehicle - 4;
                     int due = vehicle >= 2 && vehicle < 6 || (k + day) % 4 == owner ? 0 : tolls[owner];
-                    Check.same("OWNER " + owner + ", VEHICLE " + vehicle + ", DAY " + day, due, hall.dispute(vehicle, day));
+                    Check.same("OWNER " + owner + ", VEHICLE " + vehicle + ", DAY " + day, due,
+                            hall.dispute(vehicle, day));
                 }
             }
             Check.same("nothing is left to OWNER " + owner, 0, hall.ofOwner(owner, 0));

@@ -19,7 +19,8 @@ public final class EdgeAskedTest {
 
     private static void ofSegment() {
         new Sentences("Promise 15")
-                .test("- `what`: 0 the KNOT where it begins, 1 where it ends, 2 LENGTH, 3 OWNER", EdgeAskedTest::segmentParts)
+                .test("- `what`: 0 the KNOT where it begins, 1 where it ends, 2 LENGTH, 3 OWNER",
+                        EdgeAskedTest::segmentParts)
                 .test("4 1 if it is SHUT NOW, otherwise 0", EdgeAskedTest::segmentShut)
                 .test(INDEX + "there is no such SEGMENT", () -> Such.segments((hall, n) -> hall.ofSegment(n, 4)))
                 .test(ARGUMENT + "what is not 0 to 4", () -> Such.whats(4, (hall, n) -> hall.ofSegment(0, n)))
@@ -30,7 +31,8 @@ public final class EdgeAskedTest {
         new Sentences("Promise 16")
                 .test("- `what`: 0 its CLASS, 1 EMISSION, 2 ACCOUNT, 3 BALANCE", EdgeAskedTest::vehicleParts)
                 .test("4 1 if it is BLOCKED, otherwise 0", EdgeAskedTest::vehicleBlocked)
-                .test("5 the set of OWNERS with which it is EXEMPT (the sum of 2^k for each)", EdgeAskedTest::vehicleExempt)
+                .test("5 the set of OWNERS with which it is EXEMPT (the sum of 2^k for each)",
+                        EdgeAskedTest::vehicleExempt)
                 .test("6 all its BILLS that were taken (without the 10 of GUESTS), less what it got back",
                         EdgeAskedTest::vehicleTaken)
                 .test("7 all its FINES", EdgeAskedTest::vehicleFines)
@@ -99,7 +101,8 @@ public final class EdgeAskedTest {
                 .test("8 what the HALL has (0 at first), 9 ALARMS ever, 10 CATCHES ever", EdgeAskedTest::manyHall)
                 .test("11 all BILLS that were taken (without the 10 of GUESTS), less what was given back, "
                         + "12 what was given back", EdgeAskedTest::manyBills)
-                .test("13 the set of VEHICLES on the LIST, 14 the set of those that are BLOCKED", EdgeAskedTest::manySets)
+                .test("13 the set of VEHICLES on the LIST, 14 the set of those that are BLOCKED",
+                        EdgeAskedTest::manySets)
                 .test(ARGUMENT + "what is not 0 to 14", () -> Such.whats(14, GantryHall::many))
                 .end();
     }

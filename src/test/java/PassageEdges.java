@@ -27,7 +27,7 @@ final class PassageEdges {
     private static void passages(Sentences terms) {
         terms.test("and all those of it there and of that DAY up to 15 minutes later, are one", PassageEdges::upTo15);
         terms.test("the earliest SIGHTING of a VEHICLE on a SEGMENT on a DAY", PassageEdges::apart);
-        terms.test("the earliest one of those that are left, and those up to 15 minutes behind that, the next one, and so on.",
+        terms.test("the earliest one of those that are left, and those up to 15 minutes behind that, the next one",
                 PassageEdges::nextOne);
         terms.test("Its minute is that of its earliest one.", PassageEdges::earliest);
         terms.test("It is SURE, if one of them is by BOX or RADIO", PassageEdges::sureBySource);
@@ -37,7 +37,8 @@ final class PassageEdges {
     private static void inferred(Sentences terms) {
         terms.test("SURE ones of a VEHICLE on a DAY follow one another by minute, of the same minute by SEGMENT.",
                 PassageEdges::sureOrder);
-        terms.test("If one of them begins at another KNOT than that where the one ahead ended", PassageEdges::otherKnot);
+        terms.test("If one of them begins at another KNOT than that where the one ahead ended",
+                PassageEdges::otherKnot);
         terms.test("at most 180 minutes behind it", PassageEdges::atMost180);
         terms.test("and there is just one SEGMENT", PassageEdges::justOne);
         terms.test("(SHUT or not)", PassageEdges::shutOrNot);
@@ -47,7 +48,8 @@ final class PassageEdges {
 
     private static void order(Sentences terms) {
         terms.test("are the SURE ones with the INFERRED ones between them", PassageEdges::inferredBetween);
-        terms.test("behind all these come the DOUBTFUL ones, by minute, then by SEGMENT.", PassageEdges::doubtfulBehind);
+        terms.test("behind all these come the DOUBTFUL ones, by minute, then by SEGMENT.",
+                PassageEdges::doubtfulBehind);
     }
 
     private static void sightingNumbers() {

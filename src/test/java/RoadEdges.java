@@ -28,7 +28,8 @@ final class RoadEdges {
         terms.test("SEGMENTS: at most 12, numbered from 0", RoadEdges::segmentNumbers);
         terms.test("each from a KNOT (0 to 7) to another one", RoadEdges::knots);
         terms.test("with a LENGTH (1 to 60) and an OWNER (0 to 3).", RoadEdges::lengthAndOwner);
-        terms.test("A SEGMENT is SHUT from a minute to another one (both with), as it is told", RoadEdges::shutBothWith);
+        terms.test("A SEGMENT is SHUT from a minute to another one (both with), as it is told",
+                RoadEdges::shutBothWith);
         terms.test("(at most 8 times in all).", RoadEdges::shutTimes);
     }
 
@@ -56,7 +57,8 @@ final class RoadEdges {
         terms.test("VEHICLES: at most 8, numbered from 0", RoadEdges::vehicleNumbers);
         terms.test("each with a CLASS (0 to 2), an EMISSION (0 to 3), an ACCOUNT (0 PREPAID, 1 POST, 2 GUEST)",
                 RoadEdges::vehicleParts);
-        terms.test("a BALANCE (0 at first), and OWNERS with which it is EXEMPT (none at first).", RoadEdges::vehicleAtFirst);
+        terms.test("a BALANCE (0 at first), and OWNERS with which it is EXEMPT (none at first).",
+                RoadEdges::vehicleAtFirst);
         terms.test("It is BLOCKED, if its BALANCE is below 0 (PREPAID)", RoadEdges::prepaidBlocked);
         terms.test("or below -500 (POST)", RoadEdges::postBlocked);
         terms.test("a GUEST never is.", RoadEdges::guestBlocked);
