@@ -5,36 +5,39 @@ import java.lang.reflect.Modifier;
 import java.util.Set;
 import java.util.TreeSet;
 
-/** The class shows the document's face and nothing else. */
+/** The class shows the document's face, with the exceptions in their order, and nothing else. */
 public final class FaceTest {
+    private static final String INDEX = " IndexOutOfBoundsException";
+    private static final String ARGUMENT = " IllegalArgumentException";
+    private static final String STATE = " IllegalStateException";
     private static final String[] FACE = {
-        "boolean exempt(int,int,boolean)",
-        "double meanDue(int)",
-        "int bestMinute(int,int)",
-        "int bill(int,int,int)",
-        "int cap(int)",
-        "int cheapest(int,int,int)",
-        "int control(int,int,int)",
-        "int correct(int,int)",
-        "int dispute(int,int)",
-        "int holiday(int)",
-        "int journeys(int,int)",
-        "int many(int)",
-        "int ofOwner(int,int)",
-        "int ofPassage(int,int,int,int)",
-        "int ofSegment(int,int)",
-        "int ofSighting(int,int)",
-        "int ofVehicle(int,int)",
-        "int pass(int)",
-        "int passages(int,int)",
-        "int pay(int,int)",
-        "int see(int,int,int,int)",
-        "int segment(int,int,int,int)",
-        "int shut(int,int,int)",
-        "int tariff(int,int,int,int,int)",
-        "int toll(int,int,int)",
-        "int vehicle(int,int,int)",
-        "int wouldSave(int)",
+        "boolean exempt(int,int,boolean)" + INDEX,
+        "double meanDue(int)" + ARGUMENT,
+        "int bestMinute(int,int)" + INDEX,
+        "int bill(int,int,int)" + INDEX + ARGUMENT,
+        "int cap(int)" + ARGUMENT,
+        "int cheapest(int,int,int)" + INDEX,
+        "int control(int,int,int)" + INDEX + ARGUMENT + STATE,
+        "int correct(int,int)" + INDEX + STATE,
+        "int dispute(int,int)" + INDEX + ARGUMENT,
+        "int holiday(int)" + ARGUMENT + STATE,
+        "int journeys(int,int)" + INDEX + ARGUMENT,
+        "int many(int)" + ARGUMENT,
+        "int ofOwner(int,int)" + INDEX + ARGUMENT,
+        "int ofPassage(int,int,int,int)" + INDEX + ARGUMENT,
+        "int ofSegment(int,int)" + INDEX + ARGUMENT,
+        "int ofSighting(int,int)" + INDEX + ARGUMENT,
+        "int ofVehicle(int,int)" + INDEX + ARGUMENT,
+        "int pass(int)" + ARGUMENT + STATE,
+        "int passages(int,int)" + INDEX + ARGUMENT,
+        "int pay(int,int)" + INDEX + ARGUMENT,
+        "int see(int,int,int,int)" + INDEX + ARGUMENT + STATE,
+        "int segment(int,int,int,int)" + INDEX + ARGUMENT + STATE,
+        "int shut(int,int,int)" + INDEX + ARGUMENT + STATE,
+        "int tariff(int,int,int,int,int)" + INDEX + ARGUMENT + STATE,
+        "int toll(int,int,int)" + INDEX + ARGUMENT,
+        "int vehicle(int,int,int)" + ARGUMENT + STATE,
+        "int wouldSave(int)" + INDEX,
         "long digest()",
     };
 
@@ -84,6 +87,10 @@ public final class FaceTest {
             text.append(between).append(parameter.getName());
             between = ",";
         }
-        return text.append(')').toString();
+        text.append(')');
+        for (Class<?> exception : method.getExceptionTypes()) {
+            text.append(' ').append(exception.getSimpleName());
+        }
+        return text.toString();
     }
 }
